@@ -1,0 +1,47 @@
+import java.lang.reflect.Constructor;
+import java.lang.reflect.Field;
+import java.lang.reflect.Method;
+import java.lang.reflect.Modifier;
+import java.util.Set;
+import java.util.TreeSet;
+
+/** The public face: what the document lists and nothing else. */
+final class FaceTest {
+    private FaceTest() {
+    }
+
+    public static void main(String[] args) {
+        Check.same("modifiers", Modifier.toString(TwoSeals.class.getModifiers()), "public final");
+        Check.same("public methods", publicMethods(), Set.of(
+                "int type(int,long,int)", "int clear(int)", "void poke(int,int,int)", "int take(int)",
+                "void block()", "void hash(int)", "int seal(int)", "int open(int)", "int size()", "int at(int)"));
+        Constructor<?>[] constructors = TwoSeals.class.getDeclaredConstructors();
+        Check.same("constructors", constructors.length, 1);
+        Check.same("the constructor", constructors[0].toString(), "public TwoSeals()");
+        for (Field field : TwoSeals.class.getDeclaredFields()) {
+            Check.same(field + " is private", Modifier.isPrivate(field.getModifiers()), true);
+            if (Modifier.isStatic(field.getModifiers())) {
+                Check.same(field + " is final", Modifier.isFinal(field.getModifiers()), true);
+            }
+        }
+        Check.end();
+    }
+
+    private static Set<String> publicMethods() {
+        Set<String> faces = new TreeSet<>();
+        for (Method method : TwoSeals.class.getDeclaredMethods()) {
+            if (!Modifier.isPrivate(method.getModifiers())) {
+                faces.add(face(method));
+            }
+        }
+        return faces;
+    }
+
+    private static String face(Method method) {
+        StringBuilder parameters = new StringBuilder();
+        for (Class<?> type : method.getParameterTypes()) {
+            parameters.append(parameters.length() == 0 ? "" : ",").append(type);
+        }
+        return method.getReturnType() + " " + method.getName() + "(" + parameters + ")";
+    }
+}

@@ -1,0 +1,205 @@
+import java.math.BigInteger;
+import java.security.GeneralSecurityException;
+import java.util.Arrays;
+import java.util.Random;
+import javax.crypto.Cipher;
+import javax.crypto.spec.GCMParameterSpec;
+import javax.crypto.spec.SecretKeySpec;
+
+/** Promise 8: seal. */
+final class SealTest {
+    private static final byte[] NOTHING = new byte[0];
+
+    private SealTest() {
+    }
+
+    public static void main(String[] args) throws GeneralSecurityException {
+        publishedSealsOfWayZero();
+        publishedSealsOfWayOne();
+        wayZeroIsTheLibrarysGcm();
+        everyLengthInBothWays();
+        countersGoRoundInWayZero();
+        countersGoRoundInWayOne();
+        rowsStayAsTheyAre();
+        refusals();
+        Check.end();
+    }
+
+    private static void seals(int way, String key, String nonce, String aside, String text, String due) {
+        TwoSeals seals = Check.filled(Check.bytes(key), Check.bytes(nonce), Check.bytes(aside), Check.bytes(text));
+        int length = Check.bytes(text).length;
+        Check.same("seal(" + way + ") of " + length, seals.seal(way), length + 16);
+        Check.same("seal(" + way + ") of " + text, Check.hexResult(seals), due);
+    }
+
+    // The test cases 1 and 2 of the GCM paper.
+    private static void publishedSealsOfWayZero() {
+        String zeros = "00000000000000000000000000000000";
+        String nonce = "000000000000000000000000";
+        seals(0, zeros, nonce, "", "", "58e2fccefa7e3061367f1d57a4e7455a");
+        seals(0, zeros, nonce, "", zeros, "0388dace60b6a392f328c2b971b2fe78ab6e47d42cec13bdf53a67b21257bddf");
+    }
+
+    // RFC 8452, appendix C.1.
+    private static void publishedSealsOfWayOne() {
+        String key = "01000000000000000000000000000000";
+        String nonce = "030000000000000000000000";
+        seals(1, key, nonce, "", "", "dc20e2d83f25705bb49e439eca56de25");
+        seals(1, key, nonce, "", "0100000000000000", "b5d839330ac7b786578782fff6013b815b287c22493a364c");
+        seals(1, key, nonce, "", "010000000000000000000000",
+                "7323ea61d05932260047d942a4978db357391a0bc4fdec8b0d106639");
+        seals(1, key, nonce, "", "01000000000000000000000000000000",
+                "743f7c8077ab25f8624e2e948579cf77303aaf90f6fe21199c6068577437a0c4");
+        seals(1, key, nonce, "", "0100000000000000000000000000000002000000000000000000000000000000",
+                "84e07e62ba83a6585417245d7ec413a9fe427d6315c09b57ce45f2e3936a9445"
+                + "1a8e45dcd4578c667cd86847bf6155ff");
+        seals(1, key, nonce, "01", "0200000000000000", "1e6daba35669f4273b0a1a2560969cdf790d99759abd1508");
+    }
+
+    private static byte[] bytesOf(Random random, int length) {
+        byte[] bytes = new byte[length];
+        random.nextBytes(bytes);
+        return bytes;
+    }
+
+    private static void wayZeroIsTheLibrarysGcm() throws GeneralSecurityException {
+        Random random = new Random(8);
+        for (int nonceLength = 1; nonceLength <= 24; nonceLength++) {
+            for (int run = 0; run < 12; run++) {
+                byte[] key = bytesOf(random, 16);
+                byte[] nonce = bytesOf(random, nonceLength);
+                byte[] aside = bytesOf(random, random.nextInt(33));
+                byte[] text = bytesOf(random, random.nextInt(49));
+                Cipher gcm = Cipher.getInstance("AES/GCM/NoPadding");
+                gcm.init(Cipher.ENCRYPT_MODE, new SecretKeySpec(key, "AES"), new GCMParameterSpec(128, nonce));
+                gcm.updateAAD(aside);
+                seals(0, Check.hex(key), Check.hex(nonce), Check.hex(aside), Check.hex(text),
+                        Check.hex(gcm.doFinal(text)));
+            }
+        }
+    }
+
+    private static void comparesWithReference(int way, byte[] key, byte[] nonce, byte[] aside, byte[] text) {
+        seals(way, Check.hex(key), Check.hex(nonce), Check.hex(aside), Check.hex(text),
+                Check.hex(Reference.sealed(way, key, nonce, aside, text)));
+    }
+
+    private static void everyLengthInBothWays() {
+        Random random = new Random(88);
+        for (int length = 0; length <= 48; length++) {
+            for (int way = 0; way < 2; way++) {
+                byte[] key = bytesOf(random, 16);
+                byte[] nonce = bytesOf(random, 12);
+                comparesWithReference(way, key, nonce, NOTHING, bytesOf(random, length));
+                comparesWithReference(way, key, nonce, bytesOf(random, 32), bytesOf(random, length));
+                comparesWithReference(way, key, nonce, bytesOf(random, length % 33), bytesOf(random, 48));
+            }
+        }
+    }
+
+    // A nonce of 16 bytes can be found for any J: the hash is undone.
+    private static void countersGoRoundInWayZero() {
+        Random random = new Random(808);
+        for (int last = -4; last <= 1; last++) {
+            byte[] key = bytesOf(random, 16);
+            byte[] start = bytesOf(random, 16);
+            for (int j = 0; j < 4; j++) {
+                start[15 - j] = (byte) (last >> 8 * j);
+            }
+            byte[] h = Reference.encipher(key, new byte[16]);
+            BigInteger hash = Reference.quotient(0, Reference.read(0, start), Reference.read(0, h));
+            hash = hash.xor(Reference.read(0, Reference.lengths(0, 0, 16)));
+            byte[] nonce = Reference.write(0, Reference.quotient(0, hash, Reference.read(0, h)));
+            Check.same("the J wished for", Check.hex(Reference.start(h, nonce)), Check.hex(start));
+            comparesWithReference(0, key, nonce, NOTHING, bytesOf(random, 48));
+        }
+    }
+
+    // A text can be found for any seal whose block before E(G, ..) has its last bit free.
+    private static void countersGoRoundInWayOne() {
+        Random random = new Random(818);
+        int found = 0;
+        for (int run = 0; run < 40; run++) {
+            byte[] key = bytesOf(random, 16);
+            byte[] nonce = bytesOf(random, 12);
+            byte[] seal = bytesOf(random, 16);
+            for (int j = 0; j < 4; j++) {
+                seal[j] = (byte) (-1 - run % 4 >> 8 * j);
+            }
+            byte[] hash = Reference.decipher(Reference.derived(key, nonce, 2), seal);
+            if (hash[15] >= 0) {
+                found++;
+                byte[] text = textWithHash(Reference.derived(key, nonce, 0), Reference.xor(hash, nonce), random);
+                byte[] sealed = Reference.sealed(1, key, nonce, NOTHING, text);
+                Check.same("the seal wished for", Check.hex(Arrays.copyOfRange(sealed, 48, 64)), Check.hex(seal));
+                comparesWithReference(1, key, nonce, NOTHING, text);
+            }
+        }
+        Check.same("enough seals were found", found >= 10, true);
+    }
+
+    private static byte[] textWithHash(byte[] h, byte[] hash, Random random) {
+        byte[] rest = bytesOf(random, 32);
+        byte[][] behind = {
+            Reference.lengths(1, 0, 48), Arrays.copyOfRange(rest, 16, 32), Arrays.copyOf(rest, 16)};
+        BigInteger s = Reference.quotient(1, Reference.read(1, hash), Reference.read(1, h));
+        for (byte[] block : behind) {
+            s = Reference.quotient(1, s.xor(Reference.read(1, block)), Reference.read(1, h));
+        }
+        return Reference.joined(Reference.write(1, s), rest);
+    }
+
+    private static void rowsStayAsTheyAre() {
+        Random random = new Random(880);
+        byte[] key = bytesOf(random, 16);
+        byte[] nonce = bytesOf(random, 12);
+        byte[] aside = bytesOf(random, 21);
+        byte[] text = bytesOf(random, 37);
+        TwoSeals seals = Check.filled(key, nonce, aside, text);
+        for (int run = 0; run < 8; run++) {
+            int way = run / 2 % 2;
+            seals.seal(way);
+            Check.same("sealed again", Check.hexResult(seals),
+                    Check.hex(Reference.sealed(way, key, nonce, aside, text)));
+        }
+        Check.same("length of the key", seals.clear(Check.KEY), 16);
+        Check.same("length of the nonce", seals.clear(Check.NONCE), 12);
+        Check.same("length of aside", seals.clear(Check.ASIDE), 21);
+        Check.same("length of the text", seals.clear(Check.TEXT), 37);
+    }
+
+    private static void refusals() {
+        TwoSeals seals = Check.filled(new byte[16], new byte[12], NOTHING, new byte[48]);
+        seals.seal(1);
+        String before = Check.hexResult(seals);
+        for (int way : new int[] {-1, 2, Integer.MIN_VALUE, Integer.MAX_VALUE}) {
+            Check.throwing("seal(" + way + ")", IllegalArgumentException.class, () -> seals.seal(way));
+        }
+        for (int length = 49; length <= 64; length++) {
+            Check.fill(seals, Check.TEXT, new byte[length]);
+            refusesBoth(seals, "text of " + length);
+        }
+        Check.fill(seals, Check.TEXT, new byte[48]);
+        for (int length = 0; length < 16; length++) {
+            Check.fill(seals, Check.KEY, new byte[length]);
+            refusesBoth(seals, "key of " + length);
+        }
+        Check.fill(seals, Check.KEY, new byte[16]);
+        seals.clear(Check.NONCE);
+        refusesBoth(seals, "empty nonce");
+        for (int length = 1; length <= 24; length++) {
+            if (length != 12) {
+                Check.fill(seals, Check.NONCE, new byte[length]);
+                Check.throwing("seal(1), nonce of " + length, IllegalStateException.class, () -> seals.seal(1));
+            }
+        }
+        Check.throwing("seal(2), nonce of 24", IllegalArgumentException.class, () -> seals.seal(2));
+        Check.same("the result after refused seals", Check.hexResult(seals), before);
+    }
+
+    private static void refusesBoth(TwoSeals seals, String what) {
+        Check.throwing("seal(0), " + what, IllegalStateException.class, () -> seals.seal(0));
+        Check.throwing("seal(1), " + what, IllegalStateException.class, () -> seals.seal(1));
+        Check.throwing("seal(2), " + what, IllegalArgumentException.class, () -> seals.seal(2));
+    }
+}
