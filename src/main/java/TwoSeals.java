@@ -320,6 +320,8 @@ public final class TwoSeals {
         private static final long BESIDES_LOW = 1L;
 
         private final boolean outward;
+        // 7 - k is k ^ 7 for the bits 0 .. 7 of a byte, so outward this is 7.
+        private final int mirror;
         // What x^128 is, modulo the way's polynomial.
         private final long overflowHigh;
         private final long overflowLow;
@@ -331,6 +333,7 @@ public final class TwoSeals {
 
         Hasher(boolean outward) {
             this.outward = outward;
+            mirror = outward ? 7 : 0;
             overflowHigh = outward ? 0L : INWARD_HIGH;
             overflowLow = outward ? OUTWARD_LOW : INWARD_LOW;
             lengths = new int[BLOCK];
@@ -385,28 +388,21 @@ public final class TwoSeals {
         // Bytes from length on count as 0: that pads the last block.
         private long readHalf(int[] bytes, int from, int length) {
             long half = 0L;
-            for (int j = 0; j < HALF && from + j < length; j++) {
-                half |= (long) lowestFirst(bytes[from + j]) << (8 * j);
+            for (int k = 0; k < 64 && from + k / 8 < length; k++) {
+                long bit = bytes[from + k / 8] >> (k % 8 ^ mirror) & 1;
+                half |= bit << k;
             }
             return half;
         }
 
         private void writeHalf(long half, int[] to, int from) {
             for (int j = 0; j < HALF; j++) {
-                to[from + j] = lowestFirst((int) (half >>> (8 * j)) & 255);
+                to[from + j] = 0;
             }
-        }
-
-        private int lowestFirst(int b) {
-            return outward ? mirrored(b) : b;
-        }
-
-        private static int mirrored(int b) {
-            int mirror = 0;
-            for (int k = 0; k < 8; k++) {
-                mirror = mirror << 1 | (b >> k & 1);
+            for (int k = 0; k < 64; k++) {
+                int bit = (int) (half >>> k) & 1;
+                to[from + k / 8] |= bit << (k % 8 ^ mirror);
             }
-            return mirror;
         }
 
         private void multiplySumByKey() {

@@ -46,11 +46,11 @@ final class BlockTest {
         Random random = new Random(6);
         byte[] key = new byte[16];
         byte[] text = new byte[16];
-        for (int run = 0; run < 20; run++) {
+        for (int run = 0; run < 30; run++) {
             random.nextBytes(key);
             random.nextBytes(text);
             TwoSeals seals = Check.filled(key, new byte[0], new byte[0], text);
-            for (int step = 0; step < 30; step++) {
+            for (int step = 0; step < 20; step++) {
                 seals.block();
                 seals.take(Check.TEXT);
                 text = Reference.encipher(key, text);
@@ -60,20 +60,22 @@ final class BlockTest {
     }
 
     private static void refusals() {
+        for (int length = 0; length <= 64; length++) {
+            if (length != 16) {
+                refuses(Check.TEXT, length);
+            }
+        }
+        for (int length = 0; length < 16; length++) {
+            refuses(Check.KEY, length);
+        }
+    }
+
+    private static void refuses(int row, int length) {
         TwoSeals seals = Check.filled(new byte[16], new byte[0], new byte[0], new byte[16]);
         seals.block();
         String before = Check.hexResult(seals);
-        for (int length = 0; length <= 64; length++) {
-            if (length != 16) {
-                Check.fill(seals, Check.TEXT, new byte[length]);
-                Check.throwing("block of " + length, IllegalStateException.class, seals::block);
-            }
-        }
-        Check.fill(seals, Check.TEXT, new byte[16]);
-        for (int length = 0; length < 16; length++) {
-            Check.fill(seals, Check.KEY, new byte[length]);
-            Check.throwing("block with a key of " + length, IllegalStateException.class, seals::block);
-        }
-        Check.same("the result after refused blocks", Check.hexResult(seals), before);
+        Check.fill(seals, row, new byte[length]);
+        Check.throwing("block, row " + row + " of " + length, IllegalStateException.class, seals::block);
+        Check.same("the result after a refused block", Check.hexResult(seals), before);
     }
 }

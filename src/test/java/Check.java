@@ -1,5 +1,6 @@
 import java.util.Arrays;
 import java.util.HexFormat;
+import java.util.Random;
 
 /** What every test needs: answers compared, exceptions named, rows typed. */
 final class Check {
@@ -55,6 +56,12 @@ final class Check {
 
     static byte[] bytes(String hex) {
         return HexFormat.of().parseHex(hex.replace(" ", ""));
+    }
+
+    static byte[] bytesOf(Random random, int length) {
+        byte[] bytes = new byte[length];
+        random.nextBytes(bytes);
+        return bytes;
     }
 
     static String hex(byte[] bytes) {

@@ -184,21 +184,21 @@ final class RowsTest {
     }
 
     private static void takeRefuses() {
-        TwoSeals seals = Check.filled(new byte[16], new byte[12], new byte[5], new byte[48]);
+        TwoSeals seals = new TwoSeals();
         for (int row : NO_ROWS) {
             Check.throwing("take into row " + row, IllegalArgumentException.class, () -> seals.take(row));
         }
-        int[] had = {16, 12, 5, 48};
         for (int size = 16; size <= 64; size++) {
-            Check.fill(seals, Check.TEXT, new byte[size - 16]);
-            seals.seal(0);
-            had[3] = size - 16;
-            for (int row = 0; row < 4; row++) {
-                takeIfItFits(seals, row, size, had[row]);
-            }
-            Check.fill(seals, Check.KEY, new byte[16]);
-            Check.fill(seals, Check.NONCE, new byte[12]);
-            Check.fill(seals, Check.ASIDE, new byte[5]);
+            takeWhereItFits(size);
+        }
+    }
+
+    private static void takeWhereItFits(int size) {
+        TwoSeals seals = Check.filled(new byte[16], new byte[12], new byte[5], new byte[size - 16]);
+        int[] had = {16, 12, 5, size - 16};
+        seals.seal(0);
+        for (int row = 0; row < 4; row++) {
+            takeIfItFits(seals, row, size, had[row]);
         }
     }
 

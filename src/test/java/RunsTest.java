@@ -1,13 +1,15 @@
 import java.util.Random;
 
-/** All promises together: runs of 512 calls beside the model, wrong ones among them. */
+/** All promises together: runs of calls beside the model, wrong ones among them. */
 final class RunsTest {
-    private static final int RUNS = 150;
-    private static final int CALLS = 512;
+    private static final int RUNS = 600;
+    // An object is for 512 calls, and a step with its looks at the result takes at most 134.
+    private static final int LAST_STEP = 512 - 134;
 
     private final Random random;
     private final TwoSeals seals = new TwoSeals();
     private final Model model = new Model();
+    private int used = 0;
 
     private RunsTest(long seed) {
         random = new Random(seed);
@@ -16,14 +18,15 @@ final class RunsTest {
     public static void main(String[] args) {
         for (int run = 0; run < RUNS; run++) {
             RunsTest test = new RunsTest(run);
-            for (int call = 0; call < CALLS; call++) {
-                test.oneCall();
+            while (test.used <= LAST_STEP) {
+                test.oneStep();
             }
         }
         Check.end();
     }
 
     private void both(String what, Check.Call own, Check.Call models) {
+        used++;
         Check.same(what, Check.outcome(own), Check.outcome(models));
     }
 
@@ -35,7 +38,7 @@ final class RunsTest {
         return random.nextInt(30) == 0 ? 2 - 3 * random.nextInt(2) : random.nextInt(2);
     }
 
-    private void oneCall() {
+    private void oneStep() {
         switch (random.nextInt(14)) {
             case 0, 1, 2 -> type(row(), random.nextLong(), random.nextInt(60) == 0 ? 9 : 1 + random.nextInt(8));
             case 3 -> fillUp();
@@ -120,6 +123,7 @@ final class RunsTest {
     }
 
     private void sameResult() {
+        used += 1 + model.size();
         Check.same("the result", Check.hexResult(seals), Check.hex(model.result()));
     }
 }

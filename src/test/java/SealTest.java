@@ -56,20 +56,14 @@ final class SealTest {
         seals(1, key, nonce, "01", "0200000000000000", "1e6daba35669f4273b0a1a2560969cdf790d99759abd1508");
     }
 
-    private static byte[] bytesOf(Random random, int length) {
-        byte[] bytes = new byte[length];
-        random.nextBytes(bytes);
-        return bytes;
-    }
-
     private static void wayZeroIsTheLibrarysGcm() throws GeneralSecurityException {
         Random random = new Random(8);
         for (int nonceLength = 1; nonceLength <= 24; nonceLength++) {
             for (int run = 0; run < 12; run++) {
-                byte[] key = bytesOf(random, 16);
-                byte[] nonce = bytesOf(random, nonceLength);
-                byte[] aside = bytesOf(random, random.nextInt(33));
-                byte[] text = bytesOf(random, random.nextInt(49));
+                byte[] key = Check.bytesOf(random, 16);
+                byte[] nonce = Check.bytesOf(random, nonceLength);
+                byte[] aside = Check.bytesOf(random, random.nextInt(33));
+                byte[] text = Check.bytesOf(random, random.nextInt(49));
                 Cipher gcm = Cipher.getInstance("AES/GCM/NoPadding");
                 gcm.init(Cipher.ENCRYPT_MODE, new SecretKeySpec(key, "AES"), new GCMParameterSpec(128, nonce));
                 gcm.updateAAD(aside);
@@ -88,11 +82,11 @@ final class SealTest {
         Random random = new Random(88);
         for (int length = 0; length <= 48; length++) {
             for (int way = 0; way < 2; way++) {
-                byte[] key = bytesOf(random, 16);
-                byte[] nonce = bytesOf(random, 12);
-                comparesWithReference(way, key, nonce, NOTHING, bytesOf(random, length));
-                comparesWithReference(way, key, nonce, bytesOf(random, 32), bytesOf(random, length));
-                comparesWithReference(way, key, nonce, bytesOf(random, length % 33), bytesOf(random, 48));
+                byte[] key = Check.bytesOf(random, 16);
+                byte[] nonce = Check.bytesOf(random, 12);
+                comparesWithReference(way, key, nonce, NOTHING, Check.bytesOf(random, length));
+                comparesWithReference(way, key, nonce, Check.bytesOf(random, 32), Check.bytesOf(random, length));
+                comparesWithReference(way, key, nonce, Check.bytesOf(random, length % 33), Check.bytesOf(random, 48));
             }
         }
     }
@@ -101,8 +95,8 @@ final class SealTest {
     private static void countersGoRoundInWayZero() {
         Random random = new Random(808);
         for (int last = -4; last <= 1; last++) {
-            byte[] key = bytesOf(random, 16);
-            byte[] start = bytesOf(random, 16);
+            byte[] key = Check.bytesOf(random, 16);
+            byte[] start = Check.bytesOf(random, 16);
             for (int j = 0; j < 4; j++) {
                 start[15 - j] = (byte) (last >> 8 * j);
             }
@@ -111,7 +105,7 @@ final class SealTest {
             hash = hash.xor(Reference.read(0, Reference.lengths(0, 0, 16)));
             byte[] nonce = Reference.write(0, Reference.quotient(0, hash, Reference.read(0, h)));
             Check.same("the J wished for", Check.hex(Reference.start(h, nonce)), Check.hex(start));
-            comparesWithReference(0, key, nonce, NOTHING, bytesOf(random, 48));
+            comparesWithReference(0, key, nonce, NOTHING, Check.bytesOf(random, 48));
         }
     }
 
@@ -120,9 +114,9 @@ final class SealTest {
         Random random = new Random(818);
         int found = 0;
         for (int run = 0; run < 40; run++) {
-            byte[] key = bytesOf(random, 16);
-            byte[] nonce = bytesOf(random, 12);
-            byte[] seal = bytesOf(random, 16);
+            byte[] key = Check.bytesOf(random, 16);
+            byte[] nonce = Check.bytesOf(random, 12);
+            byte[] seal = Check.bytesOf(random, 16);
             for (int j = 0; j < 4; j++) {
                 seal[j] = (byte) (-1 - run % 4 >> 8 * j);
             }
@@ -139,7 +133,7 @@ final class SealTest {
     }
 
     private static byte[] textWithHash(byte[] h, byte[] hash, Random random) {
-        byte[] rest = bytesOf(random, 32);
+        byte[] rest = Check.bytesOf(random, 32);
         byte[][] behind = {
             Reference.lengths(1, 0, 48), Arrays.copyOfRange(rest, 16, 32), Arrays.copyOf(rest, 16)};
         BigInteger s = Reference.quotient(1, Reference.read(1, hash), Reference.read(1, h));
@@ -151,10 +145,10 @@ final class SealTest {
 
     private static void rowsStayAsTheyAre() {
         Random random = new Random(880);
-        byte[] key = bytesOf(random, 16);
-        byte[] nonce = bytesOf(random, 12);
-        byte[] aside = bytesOf(random, 21);
-        byte[] text = bytesOf(random, 37);
+        byte[] key = Check.bytesOf(random, 16);
+        byte[] nonce = Check.bytesOf(random, 12);
+        byte[] aside = Check.bytesOf(random, 21);
+        byte[] text = Check.bytesOf(random, 37);
         TwoSeals seals = Check.filled(key, nonce, aside, text);
         for (int run = 0; run < 8; run++) {
             int way = run / 2 % 2;
@@ -176,10 +170,8 @@ final class SealTest {
             Check.throwing("seal(" + way + ")", IllegalArgumentException.class, () -> seals.seal(way));
         }
         for (int length = 49; length <= 64; length++) {
-            Check.fill(seals, Check.TEXT, new byte[length]);
-            refusesBoth(seals, "text of " + length);
+            refusesBoth(Check.filled(new byte[16], new byte[12], NOTHING, new byte[length]), "text of " + length);
         }
-        Check.fill(seals, Check.TEXT, new byte[48]);
         for (int length = 0; length < 16; length++) {
             Check.fill(seals, Check.KEY, new byte[length]);
             refusesBoth(seals, "key of " + length);
