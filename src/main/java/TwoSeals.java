@@ -202,16 +202,16 @@ public final class TwoSeals {
         private final int[] moved;
 
         Cipher() {
-            box = new int[256];
+            box = makeBox();
             words = new int[4 * WORDS];
             state = new int[BLOCK];
             moved = new int[BLOCK];
-            fillBox(box);
         }
 
         // The powers of 3 run through all bytes but 0, and the 255th is 1
         // again: so the byte whose product with power k is 1 is power 255 - k.
-        private static void fillBox(int[] box) {
+        private static int[] makeBox() {
+            int[] box = new int[256];
             int[] powers = new int[256];
             powers[0] = 1;
             for (int k = 1; k < 256; k++) {
@@ -221,6 +221,7 @@ public final class TwoSeals {
                 box[powers[k]] = spread(powers[255 - k]);
             }
             box[0] = spread(0);
+            return box;
         }
 
         private static int spread(int b) {

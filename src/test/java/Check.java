@@ -11,6 +11,8 @@ final class Check {
 
     private static int compared = 0;
     private static int wrong = 0;
+    private static int sentences = 0;
+    private static String tested = "";
 
     private Check() {
     }
@@ -27,8 +29,23 @@ final class Check {
         compared++;
         if (!due.equals(got)) {
             wrong++;
-            System.out.println(what + " answered " + got + ", due is " + due);
+            System.out.println(tested + what + " answered " + got + ", due is " + due);
         }
+    }
+
+    /** One sentence of the document as a test of its own: if it breaks off, the next ones run all the same. */
+    static void sentence(String words, Deed test) {
+        tested = "[" + words + "] ";
+        int before = compared;
+        String ended = outcome(() -> {
+            test.happen();
+            return "wholly";
+        });
+        boolean comparedAny = compared > before;
+        same("the test ran", ended, "wholly");
+        same("the test compared something", comparedAny, true);
+        sentences++;
+        tested = "";
     }
 
     static void throwing(String what, Class<? extends RuntimeException> due, Deed deed) {
@@ -48,7 +65,8 @@ final class Check {
     }
 
     static void end() {
-        System.out.println(compared + " compared, " + wrong + " wrong");
+        String told = sentences == 0 ? "" : sentences + " sentences, ";
+        System.out.println(told + compared + " compared, " + wrong + " wrong");
         if (wrong != 0 || compared == 0) {
             System.exit(1);
         }

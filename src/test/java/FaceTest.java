@@ -13,8 +13,16 @@ final class FaceTest {
     public static void main(String[] args) {
         Check.same("modifiers", Modifier.toString(TwoSeals.class.getModifiers()), "public final");
         Check.same("public methods", publicMethods(), Set.of(
-                "int type(int,long,int)", "int clear(int)", "void poke(int,int,int)", "int take(int)",
-                "void block()", "void hash(int)", "int seal(int)", "int open(int)", "int size()", "int at(int)"));
+                "int type(int,long,int) IllegalArgumentException IllegalStateException",
+                "int clear(int) IllegalArgumentException",
+                "void poke(int,int,int) IllegalArgumentException IndexOutOfBoundsException",
+                "int take(int) IllegalArgumentException IllegalStateException",
+                "void block() IllegalStateException",
+                "void hash(int) IllegalArgumentException IllegalStateException",
+                "int seal(int) IllegalArgumentException IllegalStateException",
+                "int open(int) IllegalArgumentException IllegalStateException UnsupportedOperationException",
+                "int size()",
+                "int at(int) IndexOutOfBoundsException"));
         Constructor<?>[] constructors = TwoSeals.class.getDeclaredConstructors();
         Check.same("constructors", constructors.length, 1);
         Check.same("the constructor", constructors[0].toString(), "public TwoSeals()");
@@ -42,6 +50,10 @@ final class FaceTest {
         for (Class<?> type : method.getParameterTypes()) {
             parameters.append(parameters.length() == 0 ? "" : ",").append(type);
         }
-        return method.getReturnType() + " " + method.getName() + "(" + parameters + ")";
+        StringBuilder thrown = new StringBuilder();
+        for (Class<?> type : method.getExceptionTypes()) {
+            thrown.append(" ").append(type.getSimpleName());
+        }
+        return method.getReturnType() + " " + method.getName() + "(" + parameters + ")" + thrown;
     }
 }

@@ -201,6 +201,10 @@ final class Reference {
         return joined(ciphered(1, g, counterOfSeal(seal), text), seal);
     }
 
+    static byte[] cipheredBySeal(byte[] key, byte[] nonce, byte[] seal, byte[] text) {
+        return ciphered(1, derived(key, nonce, 2), counterOfSeal(seal), text);
+    }
+
     private static byte[] counterOfSeal(byte[] seal) {
         byte[] block = seal.clone();
         block[15] |= (byte) 128;
@@ -213,7 +217,7 @@ final class Reference {
         byte[] seal = Arrays.copyOfRange(sealed, sealed.length - 16, sealed.length);
         byte[] text = way == 0
                 ? ciphered(0, key, start(encipher(key, new byte[16]), nonce), ciphered)
-                : ciphered(1, derived(key, nonce, 2), counterOfSeal(seal), ciphered);
+                : cipheredBySeal(key, nonce, seal, ciphered);
         return Arrays.equals(sealed(way, key, nonce, aside, text), sealed) ? text : null;
     }
 }

@@ -1,6 +1,4 @@
-import java.math.BigInteger;
 import java.security.GeneralSecurityException;
-import java.util.Arrays;
 import java.util.Random;
 import javax.crypto.Cipher;
 import javax.crypto.spec.GCMParameterSpec;
@@ -18,8 +16,6 @@ final class SealTest {
         publishedSealsOfWayOne();
         wayZeroIsTheLibrarysGcm();
         everyLengthInBothWays();
-        countersGoRoundInWayZero();
-        countersGoRoundInWayOne();
         rowsStayAsTheyAre();
         refusals();
         Check.end();
@@ -89,58 +85,6 @@ final class SealTest {
                 comparesWithReference(way, key, nonce, Check.bytesOf(random, length % 33), Check.bytesOf(random, 48));
             }
         }
-    }
-
-    // A nonce of 16 bytes can be found for any J: the hash is undone.
-    private static void countersGoRoundInWayZero() {
-        Random random = new Random(808);
-        for (int last = -4; last <= 1; last++) {
-            byte[] key = Check.bytesOf(random, 16);
-            byte[] start = Check.bytesOf(random, 16);
-            for (int j = 0; j < 4; j++) {
-                start[15 - j] = (byte) (last >> 8 * j);
-            }
-            byte[] h = Reference.encipher(key, new byte[16]);
-            BigInteger hash = Reference.quotient(0, Reference.read(0, start), Reference.read(0, h));
-            hash = hash.xor(Reference.read(0, Reference.lengths(0, 0, 16)));
-            byte[] nonce = Reference.write(0, Reference.quotient(0, hash, Reference.read(0, h)));
-            Check.same("the J wished for", Check.hex(Reference.start(h, nonce)), Check.hex(start));
-            comparesWithReference(0, key, nonce, NOTHING, Check.bytesOf(random, 48));
-        }
-    }
-
-    // A text can be found for any seal whose block before E(G, ..) has its last bit free.
-    private static void countersGoRoundInWayOne() {
-        Random random = new Random(818);
-        int found = 0;
-        for (int run = 0; run < 40; run++) {
-            byte[] key = Check.bytesOf(random, 16);
-            byte[] nonce = Check.bytesOf(random, 12);
-            byte[] seal = Check.bytesOf(random, 16);
-            for (int j = 0; j < 4; j++) {
-                seal[j] = (byte) (-1 - run % 4 >> 8 * j);
-            }
-            byte[] hash = Reference.decipher(Reference.derived(key, nonce, 2), seal);
-            if (hash[15] >= 0) {
-                found++;
-                byte[] text = textWithHash(Reference.derived(key, nonce, 0), Reference.xor(hash, nonce), random);
-                byte[] sealed = Reference.sealed(1, key, nonce, NOTHING, text);
-                Check.same("the seal wished for", Check.hex(Arrays.copyOfRange(sealed, 48, 64)), Check.hex(seal));
-                comparesWithReference(1, key, nonce, NOTHING, text);
-            }
-        }
-        Check.same("enough seals were found", found >= 10, true);
-    }
-
-    private static byte[] textWithHash(byte[] h, byte[] hash, Random random) {
-        byte[] rest = Check.bytesOf(random, 32);
-        byte[][] behind = {
-            Reference.lengths(1, 0, 48), Arrays.copyOfRange(rest, 16, 32), Arrays.copyOf(rest, 16)};
-        BigInteger s = Reference.quotient(1, Reference.read(1, hash), Reference.read(1, h));
-        for (byte[] block : behind) {
-            s = Reference.quotient(1, s.xor(Reference.read(1, block)), Reference.read(1, h));
-        }
-        return Reference.joined(Reference.write(1, s), rest);
     }
 
     private static void rowsStayAsTheyAre() {
