@@ -189,6 +189,8 @@ final class SealEdgesTest {
             Check.sentence(words + "the key is not as the way wants it", () -> refusesKeys(Ask.open(way), 40));
             Check.sentence(words + "another bit in the seal", () -> refusesOtherBits(way, 20, 36));
             Check.sentence(words + "another bit in the seal of an empty text", () -> refusesOtherBits(way, 0, 16));
+            Check.sentence(words + "the same bit in two bytes of the seal", () -> refusesPairs(way));
+            Check.sentence(words + "the seal's bytes in another order", () -> refusesOtherOrders(way));
             Check.sentence(words + "another bit in the ciphered text", () -> refusesOtherBits(way, 0, 20));
             Check.sentence(words + "the seal of another key, nonce or aside", () -> refusesOtherRows(way));
             Check.sentence(words + "the seal of aside with a byte 0 more", () -> refusesLongerAside(way));
@@ -248,6 +250,29 @@ final class SealEdgesTest {
         for (int bit = 8 * from; bit < 8 * to; bit++) {
             refusesSeal(way, turned(held, Check.TEXT, bit));
         }
+    }
+
+    private static void refusesPairs(int way) {
+        Held held = sealedText(way, Held.of(16, 12, 3, 20, 20));
+        for (int one = 20; one < 36; one++) {
+            for (int other = one + 1; other < 36; other++) {
+                int bit = (one + other) % 8;
+                refusesSeal(way, turned(turned(held, Check.TEXT, 8 * one + bit), Check.TEXT, 8 * other + bit));
+            }
+        }
+    }
+
+    private static void refusesOtherOrders(int way) {
+        Held held = sealedText(way, Held.of(16, 12, 3, 20, 20));
+        byte[] sealed = held.row(Check.TEXT);
+        byte[] backwards = sealed.clone();
+        byte[] turnedRound = sealed.clone();
+        for (int j = 0; j < 16; j++) {
+            backwards[20 + j] = sealed[35 - j];
+            turnedRound[20 + j] = sealed[20 + (j + 1) % 16];
+        }
+        refusesSeal(way, held.with(Check.TEXT, backwards));
+        refusesSeal(way, held.with(Check.TEXT, turnedRound));
     }
 
     private static void refusesOtherRows(int way) {

@@ -20,6 +20,7 @@ final class TermEdgesTest {
         lengths();
         wayZero();
         wayOne();
+        Check.sentence("a call that throws changes nothing", TermEdgesTest::refusedCallsChangeNothing);
         Check.sentence("an object is used for at most 512 calls", TermEdgesTest::answersTheLastCall);
         Check.end();
     }
@@ -356,6 +357,7 @@ final class TermEdgesTest {
                         Check.hex(held.row(Check.NONCE)) + "00000001");
             }
         });
+        Check.sentence("way 0: J after one of another nonce", TermEdgesTest::startsAfterOthers);
         Check.sentence("way 0: J of a nonce of another length is its hash", () -> {
             for (int length = 1; length <= 24; length++) {
                 if (length != 12) {
@@ -389,6 +391,18 @@ final class TermEdgesTest {
     // The hash of nothing but lengths 0 is 0: that seal is E(key, J).
     private static byte[] startSeen(byte[] key, byte[] nonce) {
         return Reference.decipher(key, sealed(0, key, nonce, NOTHING, NOTHING));
+    }
+
+    private static void startsAfterOthers() {
+        byte[] key = Held.of(16, 0, 0, 0, 0).row(Check.KEY);
+        TwoSeals seals = Check.filled(key, NOTHING, NOTHING, NOTHING);
+        for (int length : new int[] {24, 12, 1, 12, 16, 11, 12, 13, 12, 12}) {
+            byte[] nonce = Held.of(0, length, 0, 0, 0).row(Check.NONCE);
+            Check.fill(seals, Check.NONCE, nonce);
+            seals.seal(0);
+            Check.same("J of " + length, Check.hex(Reference.decipher(key, Check.result(seals))),
+                    Check.hex(Reference.start(Reference.encipher(key, ZEROS), nonce)));
+        }
     }
 
     private static void startIsHashed(Held held) {
@@ -522,6 +536,31 @@ final class TermEdgesTest {
                     out[31] & 255 | 128);
         }
         Check.same("some seals had the bit, some had it not", had > 3 && had < 29, true);
+    }
+
+    // One object is refused everything that it can be, one call behind the other.
+    private static void refusedCallsChangeNothing() {
+        Ask[] always = {Ask.type(-1, 1L, 1), Ask.type(4, 1L, 1), Ask.type(0, 1L, 0), Ask.type(1, 1L, 9),
+            Ask.clear(-1), Ask.clear(4), Ask.poke(4, 0, 1), Ask.poke(3, 0, 256), Ask.poke(2, 0, -1),
+            Ask.poke(0, 16, 1), Ask.poke(1, -1, 1), Ask.take(-1), Ask.take(4), Ask.hash(2), Ask.hash(-1),
+            Ask.seal(2), Ask.seal(-1), Ask.open(2), Ask.open(-1), Ask.at(-1), Ask.at(64)};
+        Ask[] whenFull = {Ask.type(0, 1L, 1), Ask.type(1, 1L, 8), Ask.type(2, 1L, 1), Ask.type(3, 1L, 8),
+            Ask.take(0), Ask.take(1), Ask.take(2), Ask.block(), Ask.seal(0), Ask.seal(1), Ask.open(0), Ask.open(1)};
+        Ask[] whenShort = {Ask.type(0, 1L, 2), Ask.block(), Ask.hash(0), Ask.hash(1), Ask.seal(0), Ask.seal(1),
+            Ask.open(0), Ask.open(1), Ask.at(49), Ask.poke(2, 0, 1)};
+        refusesAll(Held.of(16, 24, 32, 64, 64), always, whenFull);
+        refusesAll(Held.of(15, 11, 0, 15, 49), always, whenShort);
+    }
+
+    private static void refusesAll(Held held, Ask[]... refused) {
+        TwoSeals seals = held.object();
+        for (Ask[] asks : refused) {
+            for (Ask ask : asks) {
+                String outcome = Check.outcome(() -> ask.call().apply(seals));
+                Check.same(ask.name() + " is refused", outcome.startsWith("throws "), true);
+            }
+        }
+        held.isIn("after all refusals", seals);
     }
 
     private static void answersTheLastCall() {
