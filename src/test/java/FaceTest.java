@@ -32,7 +32,26 @@ final class FaceTest {
                 Check.same(field + " is final", Modifier.isFinal(field.getModifiers()), true);
             }
         }
+        Set<String> names = new TreeSet<>();
+        for (Method method : TwoSeals.class.getMethods()) {
+            names.add(method.getName());
+        }
+        bearsNoPublicName(TwoSeals.class, names);
+        for (Class<?> inside : TwoSeals.class.getDeclaredClasses()) {
+            Check.same(inside + " is static", Modifier.isStatic(inside.getModifiers()), true);
+            Check.same(inside + " is private", Modifier.isPrivate(inside.getModifiers()), true);
+            bearsNoPublicName(inside, names);
+        }
         Check.end();
+    }
+
+    // LANGUAGE.md, rule 1.
+    private static void bearsNoPublicName(Class<?> owner, Set<String> names) {
+        for (Method method : owner.getDeclaredMethods()) {
+            if (!Modifier.isPublic(method.getModifiers())) {
+                Check.same(owner + " hides " + method.getName(), names.contains(method.getName()), false);
+            }
+        }
     }
 
     private static Set<String> publicMethods() {

@@ -71,8 +71,11 @@ final class TermEdgesTest {
     }
 
     private static void cipher() {
-        Check.sentence("the words 0 .. 3 are K's, and X ^ them goes through the rounds", TermEdgesTest::firstWords);
-        Check.sentence("the words 4 .. 43, c doubled each time", TermEdgesTest::madeWords);
+        Check.sentence("X ^ the words 0 .. 3 goes through the rounds", TermEdgesTest::firstWords);
+        Check.sentence("the words 0 .. 43 have four bytes each; 0 .. 3 are K's", TermEdgesTest::wordsOfOneKey);
+        Check.sentence("word i is word i - 4 ^ (byte by byte) word i - 1", TermEdgesTest::wordsInBetween);
+        Check.sentence("if i is a multiple of 4, the boxes of its bytes 1, 2, 3, 0, the first one also ^ c",
+                TermEdgesTest::wordsOfMultiplesOfFour);
         Check.sentence("byte 4 c + r becomes what byte 4 ((c + r) % 4) + r was", TermEdgesTest::movedBytes);
         Check.sentence("not in round 10; at last the words 40 .. 43", TermEdgesTest::lastRoundAndWords);
         Check.sentence("the rounds 1 .. 10", TermEdgesTest::allRounds);
@@ -93,23 +96,61 @@ final class TermEdgesTest {
         }
     }
 
-    private static String wordsInHex(byte[] key, int from) {
+    private static String fourWords(int[] words, int from) {
         byte[] four = new byte[16];
         for (int j = 0; j < 16; j++) {
-            four[j] = (byte) PlainCipher.words(key)[4 * from + j];
+            four[j] = (byte) words[4 * from + j];
         }
         return Check.hex(four);
     }
 
-    // The key of FIPS 197, appendix A.1; the last doublings of c are 128, 27, 54.
-    private static void madeWords() {
+    // Before round 10 all is 0, so that what comes out is 99 ^ the words 40 .. 43.
+    private static String lastWordsSeen(byte[] key) {
+        return Check.hex(Reference.xor(lastRound(key, ZEROS), Check.bytes("63636363636363636363636363636363")));
+    }
+
+    private static void wordsOfOneKey() {
         byte[] key = Check.bytes("2b7e151628aed2a6abf7158809cf4f3c");
-        Check.same("the words 4 .. 7", wordsInHex(key, 4), "a0fafe1788542cb123a339392a6c7605");
-        Check.same("the words 40 .. 43", wordsInHex(key, 40), "d014f9a8c9ee2589e13f0cc8b6630ca6");
-        // Before round 10 all is 0, so that what comes out is 99 ^ the words 40 .. 43.
-        Check.same("99 and the last words", Check.hex(lastRound(key, ZEROS)),
-                Check.hex(Reference.xor(Check.bytes("d014f9a8c9ee2589e13f0cc8b6630ca6"),
-                        Check.bytes("63636363636363636363636363636363"))));
+        int[] words = PlainCipher.words(key);
+        // Worked out from the document's sentence apart from all that stands in this project.
+        Check.same("the words 0 .. 3", fourWords(words, 0), Check.hex(key));
+        Check.same("the words 4 .. 7", fourWords(words, 4), "a0fafe1788542cb123a339392a6c7605");
+        Check.same("the words 40 .. 43", fourWords(words, 40), "d014f9a8c9ee2589e13f0cc8b6630ca6");
+        Check.same("the last words", lastWordsSeen(key), "d014f9a8c9ee2589e13f0cc8b6630ca6");
+    }
+
+    private static void wordsInBetween() {
+        Random random = new Random(1004);
+        for (int run = 0; run < 20; run++) {
+            byte[] key = Check.bytesOf(random, 16);
+            int[] words = PlainCipher.words(key);
+            for (int i = 5; i < 44; i += i % 4 == 3 ? 2 : 1) {
+                for (int r = 0; r < 4; r++) {
+                    Check.same("byte " + r + " of word " + i, words[4 * i + r],
+                            words[4 * (i - 4) + r] ^ words[4 * (i - 1) + r]);
+                }
+            }
+            Check.same("the last words", lastWordsSeen(key), fourWords(words, 40));
+        }
+    }
+
+    private static void wordsOfMultiplesOfFour() {
+        int[] c = {1, 2, 4, 8, 16, 32, 64, 128, 27, 54};
+        Random random = new Random(1005);
+        for (int run = 0; run < 20; run++) {
+            byte[] key = Check.bytesOf(random, 16);
+            int[] words = PlainCipher.words(key);
+            for (int i = 4; i < 44; i += 4) {
+                int[] due = {words[4 * i - 16] ^ PlainCipher.box(words[4 * i - 3]) ^ c[i / 4 - 1],
+                    words[4 * i - 15] ^ PlainCipher.box(words[4 * i - 2]),
+                    words[4 * i - 14] ^ PlainCipher.box(words[4 * i - 1]),
+                    words[4 * i - 13] ^ PlainCipher.box(words[4 * i - 4])};
+                for (int r = 0; r < 4; r++) {
+                    Check.same("byte " + r + " of word " + i, words[4 * i + r], due[r]);
+                }
+            }
+            Check.same("the last words", lastWordsSeen(key), fourWords(words, 40));
+        }
     }
 
     // What the program makes of the X for which this is the state before round 10.
